@@ -1,0 +1,108 @@
+import java.lang.management.ManagementFactory;
+
+/** Spaces of 4096 designs: answers that can be told by thought, in runs of 512 calls that stay in their room. */
+public final class LargestTest {
+    private static final int NONE = DesignSpaces.NONE;
+    /** The room holds some 7.3 million elements; at four bytes each this leaves more than half of it free. */
+    private static final long MOST_BYTES = 12000000;
+    private static int wrong = 0;
+
+    private static void due(String call, long got, long want) {
+        if (got != want) {
+            wrong++;
+            System.out.println(call + " answered " + got + ", due is " + want);
+        }
+    }
+
+    private static DesignSpaces largest() {
+        DesignSpaces x = new DesignSpaces(-1);
+        for (int c = 0; c < 6; c++) {
+            x.choice(4);
+        }
+        return x;
+    }
+
+    /** Number 0 becomes the design's own number, number 1 what is left to 0: none beats another. */
+    private static void opposeNumbers(DesignSpaces x) {
+        int place = 1024;
+        for (int c = 0; c < 6; c++) {
+            for (int v = 1; v < 4; v++) {
+                x.term(0, c, v, NONE, 0, v * place);
+                x.term(1, c, v, NONE, 0, -v * place);
+            }
+            place /= 4;
+        }
+    }
+
+    private static void allUndominated() {
+        DesignSpaces x = largest();
+        due("undominated() without terms", x.undominated(), 4096);
+        opposeNumbers(x);
+        due("number(4095, 0)", x.number(4095, 0), 4095);
+        due("number(1234, 1)", x.number(1234, 1), -1234);
+        for (int i = 0; i < 100; i++) {
+            x.limit(0, true, 40 * i);
+            due("undominated() with limit " + 40 * i, x.undominated(), 40 * i + 1);
+            due("at(" + 40 * i + ")", x.at(40 * i), 40 * i);
+        }
+        x.limit(0, false, 0);
+        due("undominated()", x.undominated(), 4096);
+        due("best(0)", x.best(0), 0);
+        due("looked() for best(0)", x.looked(), 1 + 6 * 4);
+        due("best(1)", x.best(1), 4095);
+        due("looked() for best(1)", x.looked(), 1 + 4 + 16 + 64 + 256 + 1024 + 4096);
+        due("matters(0, 0)", x.matters(0, 0), 3072);
+        due("matters(5, 1)", x.matters(5, 1), 3);
+        due("sweep(5000)", x.sweep(5000), 4096);
+        due("count(6)", x.count(6), NONE);
+    }
+
+    /** Limits that only whole rows pass: each of the 5461 rows is looked at. */
+    private static void nothingLegal() {
+        DesignSpaces x = largest();
+        for (int v = 0; v < 4; v++) {
+            x.term(0, 5, v, NONE, 0, 1);
+        }
+        x.limit(0, true, 0);
+        due("best(3)", x.best(3), NONE);
+        due("looked()", x.looked(), 5461);
+        due("undominated()", x.undominated(), 0);
+        due("sweep(4096)", x.sweep(4096), 0);
+        due("matters(5, 0)", x.matters(5, 0), 0);
+    }
+
+    private static void staysInItsRoom() {
+        com.sun.management.ThreadMXBean threads = (com.sun.management.ThreadMXBean) ManagementFactory.getThreadMXBean();
+        long id = Thread.currentThread().getId();
+        long before = threads.getThreadAllocatedBytes(id);
+        DesignSpaces x = new DesignSpaces(5);
+        for (int c = 0; c < 6; c++) {
+            x.choice(4);
+            x.undominated();
+        }
+        opposeNumbers(x);
+        for (int i = 0; i < 76; i++) {
+            x.limit(i % 4, i % 8 < 4, i);
+            x.undominated();
+            x.best(i % 4);
+            x.walk(0, 1000);
+            x.matters(i % 6, i % 4);
+            x.bound(i % 4, i, i % 7);
+        }
+        long used = threads.getThreadAllocatedBytes(id) - before;
+        if (used > MOST_BYTES) {
+            wrong++;
+            System.out.println("a run of 512 calls used " + used + " bytes");
+        }
+    }
+
+    public static void main(String[] args) {
+        allUndominated();
+        nothingLegal();
+        staysInItsRoom();
+        System.out.println("LargestTest: " + wrong + " wrong");
+        if (wrong != 0) {
+            System.exit(1);
+        }
+    }
+}
