@@ -3,8 +3,8 @@ import java.lang.management.ManagementFactory;
 /** Spaces of 4096 designs: answers that can be told by thought, in runs of 512 calls that stay in their room. */
 public final class LargestTest {
     private static final int NONE = DesignSpaces.NONE;
-    /** The room holds some 7.3 million elements; at four bytes each this leaves more than half of it free. */
-    private static final long MOST_BYTES = 12000000;
+    /** The room holds some 7.3 million elements; at four bytes each this is a small part of it. */
+    private static final long MOST_BYTES = 1000000;
     private static int wrong = 0;
 
     private static void due(String call, long got, long want) {
