@@ -9,6 +9,8 @@ public final class DesignSpaces {
     private static final int MOST_VALUES = 6;
     private static final int MOST_CHOICES = 8;
     private static final int MOST_DESIGNS = 4096;
+    /** Each choice has two values or more, so all shorter rows together are fewer than the whole ones. */
+    private static final int MOST_ROWS = 2 * MOST_DESIGNS;
     private static final int NUMBERS = 4;
     private static final int MOST_TERMS = 100;
     private static final int MOST_WEIGHT = 1000000;
@@ -261,6 +263,14 @@ public final class DesignSpaces {
             int place = places[choice];
             int size = sizes[choice];
             return place > 0 && size > 0 ? design / place % size : 0;
+        }
+
+        int designOf(int[] values) {
+            int design = 0;
+            for (int c = 0; c < choices; c++) {
+                design += values[c] * places[c];
+            }
+            return design;
         }
 
         int neighbours() {
@@ -592,27 +602,39 @@ public final class DesignSpaces {
         }
 
         int leastOf(int number) {
-            rowsSeen = 0;
             found = NONE;
-            lookAt(number, 0, 0);
+            rowsSeen = 0;
+            int set = 0;
+            while (set != NONE && rowsSeen < MOST_ROWS) {
+                rowsSeen++;
+                boolean passed = isPassedBy(number, set);
+                if (!passed && set < shape.choices) {
+                    row[set] = 0;
+                    set++;
+                } else {
+                    if (!passed) {
+                        keepRow(number);
+                    }
+                    set = goBehind(set);
+                }
+            }
             return found;
         }
 
-        /** The design has the row's values, and 0 for the choices that are not set. */
-        private void lookAt(int number, int set, int design) {
-            rowsSeen++;
-            if (isPassedBy(number, set)) {
-                return;
+        private void keepRow(int number) {
+            found = shape.designOf(row);
+            least = book.sumOf(found, number);
+        }
+
+        /** Makes the row the first one behind all that begin with it: how many are set then, NONE without one. */
+        private int goBehind(int set) {
+            for (int c = set - 1; c >= 0; c--) {
+                if (row[c] < shape.sizes[c] - 1) {
+                    row[c]++;
+                    return c + 1;
+                }
             }
-            if (set >= shape.choices) {
-                found = design;
-                least = book.sumOf(design, number);
-                return;
-            }
-            for (int v = 0; v < shape.sizes[set]; v++) {
-                row[set] = v;
-                lookAt(number, set + 1, design + v * shape.places[set]);
-            }
+            return NONE;
         }
 
         private boolean isPassedBy(int number, int set) {

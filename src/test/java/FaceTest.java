@@ -5,8 +5,12 @@ import java.lang.reflect.Modifier;
 import java.nio.file.Files;
 import java.nio.file.Path;
 import java.util.Arrays;
+import java.util.Map;
 import java.util.Set;
+import java.util.TreeMap;
 import java.util.TreeSet;
+import java.util.regex.Matcher;
+import java.util.regex.Pattern;
 
 /** The face of the document and no more, and what of LANGUAGE.md can be seen in the text. */
 public final class FaceTest {
@@ -115,8 +119,7 @@ public final class FaceTest {
         }
     }
 
-    private static void checkText() throws Exception {
-        String text = Files.readString(Path.of("src/main/java/DesignSpaces.java"));
+    private static void checkText(String text) {
         for (String word : RULED_OUT) {
             if (text.contains(word)) {
                 fault("the text holds what LANGUAGE.md leaves out: " + word);
@@ -124,10 +127,61 @@ public final class FaceTest {
         }
     }
 
+    /** By a method's name what stands between its braces; methods of one name are taken as one. */
+    private static Map<String, String> bodies(String text) {
+        String code = text.replaceAll("(?s)/\\*.*?\\*/", "").replaceAll("//.*", "").replaceAll("\"[^\"]*\"", "");
+        Matcher head = Pattern.compile("(\\w+)\\([^()]*\\)\\s*(throws [\\w,\\s]+)?\\{").matcher(code);
+        Map<String, String> found = new TreeMap<>();
+        while (head.find()) {
+            int open = 1;
+            int end = head.end();
+            while (open > 0) {
+                char c = code.charAt(end);
+                open += c == '{' ? 1 : c == '}' ? -1 : 0;
+                end++;
+            }
+            found.merge(head.group(1), code.substring(head.end(), end), String::concat);
+        }
+        return found;
+    }
+
+    /** How many calls stand open at most, from this one on; a method that comes back to itself is a fault (rule 8). */
+    private static int depthOf(String method, Map<String, String> bodies, Set<String> open) {
+        if (!open.add(method)) {
+            fault("calls itself: " + method + " through " + open);
+            return 0;
+        }
+        int deepest = 0;
+        Matcher call = Pattern.compile("(\\w+)\\(").matcher(bodies.get(method));
+        while (call.find()) {
+            if (bodies.containsKey(call.group(1))) {
+                deepest = Math.max(deepest, depthOf(call.group(1), bodies, open));
+            }
+        }
+        open.remove(method);
+        return deepest + 1;
+    }
+
+    private static void checkCalls(String text) {
+        Map<String, String> bodies = bodies(text);
+        for (Method m : DesignSpaces.class.getMethods()) {
+            if (m.getDeclaringClass() == DesignSpaces.class && !bodies.containsKey(m.getName())) {
+                fault("not found in the text: " + m.getName());
+            }
+        }
+        for (String method : bodies.keySet()) {
+            if (depthOf(method, bodies, new TreeSet<>()) > 8) {
+                fault("calls go more than eight deep from " + method);
+            }
+        }
+    }
+
     public static void main(String[] args) throws Exception {
+        String text = Files.readString(Path.of("src/main/java/DesignSpaces.java"));
         checkFace();
         checkClassesInside();
-        checkText();
+        checkText(text);
+        checkCalls(text);
         System.out.println("FaceTest: " + wrong + " wrong");
         if (wrong != 0) {
             System.exit(1);

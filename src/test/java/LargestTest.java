@@ -71,6 +71,30 @@ public final class LargestTest {
         due("matters(5, 0)", x.matters(5, 0), 0);
     }
 
+    /** Eight choices, the small ones last, have the most rows of all: each one is looked at, and the last is the best. */
+    private static void mostRows() {
+        DesignSpaces x = new DesignSpaces(1);
+        int place = 4096;
+        for (int c = 0; c < 8; c++) {
+            int values = c < 4 ? 4 : 2;
+            x.choice(values);
+            place /= values;
+            for (int v = 1; v < values; v++) {
+                x.term(2, c, v, NONE, 0, -v * place);
+            }
+        }
+        int rows = 1 + 4 + 16 + 64 + 256 + 512 + 1024 + 2048 + 4096;
+        due("best(2) of the most rows", x.best(2), 4095);
+        due("looked() of the most rows", x.looked(), rows);
+        x.limit(2, true, -4096);
+        due("best(2) with no legal ones", x.best(2), NONE);
+        // the bound counts all three terms of a choice of four values until it is set: rows of the last values go four deep
+        due("looked() with no legal ones", x.looked(), 1 + 4 * 4);
+        x.limit(2, true, -4095);
+        due("best(3) with the last one legal alone", x.best(3), 4095);
+        due("looked() along the last ones", x.looked(), 1 + 4 * 4 + 4 * 2);
+    }
+
     private static void staysInItsRoom() {
         com.sun.management.ThreadMXBean threads = (com.sun.management.ThreadMXBean) ManagementFactory.getThreadMXBean();
         long id = Thread.currentThread().getId();
@@ -99,6 +123,7 @@ public final class LargestTest {
     public static void main(String[] args) {
         allUndominated();
         nothingLegal();
+        mostRows();
         staysInItsRoom();
         System.out.println("LargestTest: " + wrong + " wrong");
         if (wrong != 0) {
