@@ -15,6 +15,9 @@ public final class DesignSpaces {
     private static final int MOST_TERMS = 100;
     private static final int MOST_WEIGHT = 1000000;
     private static final int MOST_RULES = 40;
+    /** Any number may have all the terms; the rules stand behind the terms' slots. */
+    private static final int TERM_SLOTS = NUMBERS * MOST_TERMS;
+    private static final int MATCH_SLOTS = TERM_SLOTS + MOST_RULES;
     private static final int MOST_STEPS = 1000;
     private static final int MOST_SWEPT = 5000;
     private static final int LOWEST_31_BITS = 0x7fffffff;
@@ -61,7 +64,7 @@ public final class DesignSpaces {
         if (book.termsTold >= MOST_TERMS) {
             throw new UnsupportedOperationException("there are 100 terms");
         }
-        book.addTerm(number, new Match(a, va, b, vb), weight);
+        book.addTerm(number, a, va, b, vb, weight);
         front.forget();
         return book.termsTold;
     }
@@ -77,7 +80,7 @@ public final class DesignSpaces {
         if (book.rulesTold >= MOST_RULES) {
             throw new UnsupportedOperationException("there are forty rules");
         }
-        book.addRule(new Match(a, va, b, vb));
+        book.addRule(a, va, b, vb);
         front.forget();
         return book.rulesTold;
     }
@@ -296,107 +299,102 @@ public final class DesignSpaces {
         }
     }
 
-    /** One value of a choice, or one value each of two choices (b is NONE for one alone). */
-    private static final class Match {
-        final int a;
-        final int va;
-        final int b;
-        final int vb;
+    /** What terms and rules are about, by slot: one value of a choice, or one each of two (b is NONE for one). */
+    private static final class Matches {
+        final Shape shape;
+        private final int[] a = new int[MATCH_SLOTS];
+        private final int[] va = new int[MATCH_SLOTS];
+        private final int[] b = new int[MATCH_SLOTS];
+        private final int[] vb = new int[MATCH_SLOTS];
 
-        Match(int a, int va, int b, int vb) {
-            this.a = a;
-            this.va = va;
-            this.b = b;
-            this.vb = vb;
+        Matches(Shape shape) {
+            this.shape = shape;
         }
 
-        boolean fits(Shape shape, int design) {
-            return shape.digit(design, a) == va && (b == NONE || shape.digit(design, b) == vb);
+        void put(int slot, int choice, int value, int other, int otherValue) {
+            a[slot] = choice;
+            va[slot] = value;
+            b[slot] = other;
+            vb[slot] = otherValue;
+        }
+
+        boolean fits(int slot, int design) {
+            return shape.digit(design, a[slot]) == va[slot]
+                    && (b[slot] == NONE || shape.digit(design, b[slot]) == vb[slot]);
         }
 
         /** Whether none of its choices is among the first ones set with another value. */
-        boolean isOpen(int[] row, int set) {
-            return (a >= set || row[a] == va) && (b == NONE || b >= set || row[b] == vb);
+        boolean isOpen(int slot, int[] row, int set) {
+            int first = a[slot];
+            int second = b[slot];
+            return (first >= set || row[first] == va[slot])
+                    && (second == NONE || second >= set || row[second] == vb[slot]);
         }
 
         /** Whether all its choices are among the first ones set (NONE is below any count). */
-        boolean isSettled(int set) {
-            return a < set && b < set;
-        }
-    }
-
-    /** A term in the chain of its number's terms. */
-    private static final class Term {
-        final Match match;
-        final int weight;
-        final Term next;
-
-        Term(Match match, int weight, Term next) {
-            this.match = match;
-            this.weight = weight;
-            this.next = next;
-        }
-    }
-
-    /** A rule in the chain of all rules. */
-    private static final class Bar {
-        final Match match;
-        final Bar next;
-
-        Bar(Match match, Bar next) {
-            this.match = match;
-            this.next = next;
+        boolean isSettled(int slot, int set) {
+            return a[slot] < set && b[slot] < set;
         }
     }
 
     /** Terms, rules and limits, with each design's numbers kept up to date as they are told. */
     private static final class Book {
         final Shape shape;
-        final Term[] terms = new Term[NUMBERS];
-        Bar bars = null;
+        final Matches matches;
+        /** How many terms each number has; the slots of number n's terms begin at n * MOST_TERMS. */
+        private final int[] termsOf = new int[NUMBERS];
+        private final int[] weights = new int[TERM_SLOTS];
         int termsTold = 0;
         int rulesTold = 0;
         final boolean[] limited = new boolean[NUMBERS];
         final int[] most = new int[NUMBERS];
         /** The four numbers of design 0, then those of design 1, and so on. */
-        int[] sums = new int[NUMBERS];
-        boolean[] barred = new boolean[1];
+        private final int[] sums = new int[MOST_DESIGNS * NUMBERS];
+        private final boolean[] barred = new boolean[MOST_DESIGNS];
 
         Book(Shape shape) {
             this.shape = shape;
+            matches = new Matches(shape);
         }
 
-        /** A new choice is the lowest digit, and no term or rule knows it: each design's entries are its parts', too. */
+        /**
+         * A new choice is the lowest digit, and no term or rule knows it: each design's entries are its parts', too.
+         * From the last one down, so that no design's entries are written over before they are copied.
+         */
         void splitDesigns(int values) {
-            int[] newSums = new int[sums.length * values];
-            boolean[] newBarred = new boolean[barred.length * values];
-            int part = 0;
-            for (int design = 0; design < barred.length; design++) {
-                for (int v = 0; v < values; v++) {
-                    System.arraycopy(sums, design * NUMBERS, newSums, part * NUMBERS, NUMBERS);
-                    newBarred[part] = barred[design];
-                    part++;
+            for (int design = shape.designs - 1; design >= 0; design--) {
+                for (int v = values - 1; v >= 0; v--) {
+                    copyEntries(design, design * values + v);
                 }
             }
-            sums = newSums;
-            barred = newBarred;
         }
 
-        void addTerm(int number, Match match, int weight) {
-            terms[number] = new Term(match, weight, terms[number]);
+        private void copyEntries(int from, int to) {
+            barred[to] = barred[from];
+            for (int n = 0; n < NUMBERS; n++) {
+                sums[to * NUMBERS + n] = sums[from * NUMBERS + n];
+            }
+        }
+
+        void addTerm(int number, int a, int va, int b, int vb, int weight) {
+            int slot = number * MOST_TERMS + termsOf[number];
+            matches.put(slot, a, va, b, vb);
+            weights[slot] = weight;
+            termsOf[number]++;
             termsTold++;
             for (int design = 0; design < shape.designs; design++) {
-                if (match.fits(shape, design)) {
+                if (matches.fits(slot, design)) {
                     sums[design * NUMBERS + number] += weight;
                 }
             }
         }
 
-        void addRule(Match match) {
-            bars = new Bar(match, bars);
+        void addRule(int a, int va, int b, int vb) {
+            int slot = TERM_SLOTS + rulesTold;
+            matches.put(slot, a, va, b, vb);
             rulesTold++;
             for (int design = 0; design < shape.designs; design++) {
-                if (match.fits(shape, design)) {
+                if (matches.fits(slot, design)) {
                     barred[design] = true;
                 }
             }
@@ -451,17 +449,20 @@ public final class DesignSpaces {
 
         int boundOf(int number, int[] row, int set) {
             int sum = 0;
-            for (Term t = terms[number]; t != null; t = t.next) {
-                if (t.match.isOpen(row, set) && (t.weight < 0 || t.match.isSettled(set))) {
-                    sum += t.weight;
+            int first = number * MOST_TERMS;
+            int end = first + termsOf[number];
+            for (int slot = first; slot < end; slot++) {
+                if (matches.isOpen(slot, row, set) && (weights[slot] < 0 || matches.isSettled(slot, set))) {
+                    sum += weights[slot];
                 }
             }
             return sum;
         }
 
         boolean barsRow(int[] row, int set) {
-            for (Bar bar = bars; bar != null; bar = bar.next) {
-                if (bar.match.isSettled(set) && bar.match.isOpen(row, set)) {
+            int end = TERM_SLOTS + rulesTold;
+            for (int slot = TERM_SLOTS; slot < end; slot++) {
+                if (matches.isSettled(slot, set) && matches.isOpen(slot, row, set)) {
                     return true;
                 }
             }
@@ -510,9 +511,9 @@ public final class DesignSpaces {
         final Shape shape;
         final Book book;
         /** At first the heads alone (one of several designs with the same numbers), in the end all undominated ones. */
-        int[] members = new int[1];
+        final int[] members = new int[MOST_DESIGNS];
         /** By design the head with its numbers (itself, too); NONE when it is beaten or not legal. */
-        int[] heads = new int[1];
+        private final int[] heads = new int[MOST_DESIGNS];
         int size = 0;
         boolean fresh = false;
 
@@ -528,10 +529,6 @@ public final class DesignSpaces {
         void refresh() {
             if (fresh) {
                 return;
-            }
-            if (members.length < shape.designs) {
-                members = new int[shape.designs];
-                heads = new int[shape.designs];
             }
             findHeads();
             collectMembers();
@@ -591,7 +588,7 @@ public final class DesignSpaces {
     private static final class Search {
         final Shape shape;
         final Book book;
-        final int[] row = new int[MOST_CHOICES];
+        private final int[] row = new int[MOST_CHOICES];
         int rowsSeen = 0;
         private int found = NONE;
         private int least = 0;
@@ -603,10 +600,9 @@ public final class DesignSpaces {
 
         int leastOf(int number) {
             found = NONE;
-            rowsSeen = 0;
             int set = 0;
-            while (set != NONE && rowsSeen < MOST_ROWS) {
-                rowsSeen++;
+            for (int seen = 1; set != NONE && seen <= MOST_ROWS; seen++) {
+                rowsSeen = seen;
                 boolean passed = isPassedBy(number, set);
                 if (!passed && set < shape.choices) {
                     row[set] = 0;

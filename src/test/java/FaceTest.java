@@ -127,9 +127,12 @@ public final class FaceTest {
         }
     }
 
+    private static String withoutCommentsAndTexts(String text) {
+        return text.replaceAll("(?s)/\\*.*?\\*/", "").replaceAll("//.*", "").replaceAll("\"[^\"]*\"", "");
+    }
+
     /** By a method's name what stands between its braces; methods of one name are taken as one. */
-    private static Map<String, String> bodies(String text) {
-        String code = text.replaceAll("(?s)/\\*.*?\\*/", "").replaceAll("//.*", "").replaceAll("\"[^\"]*\"", "");
+    private static Map<String, String> bodies(String code) {
         Matcher head = Pattern.compile("(\\w+)\\([^()]*\\)\\s*(throws [\\w,\\s]+)?\\{").matcher(code);
         Map<String, String> found = new TreeMap<>();
         while (head.find()) {
@@ -162,8 +165,28 @@ public final class FaceTest {
         return deepest + 1;
     }
 
-    private static void checkCalls(String text) {
-        Map<String, String> bodies = bodies(text);
+    /** Rule 12: constructors alone make things, of sizes that are written out; a call makes what it throws, no more. */
+    private static void checkMaking(String code) {
+        for (Map.Entry<String, String> method : bodies(code).entrySet()) {
+            boolean constructor = Character.isUpperCase(method.getKey().charAt(0));
+            String body = method.getValue().replaceAll("throw new \\w+\\(\\)", "");
+            if (!constructor && Pattern.compile("\\bnew\\b|\\bclone\\(|copyOf|StringBuilder|String\\b").matcher(body).find()) {
+                fault("makes something: " + method.getKey());
+            }
+            if (constructor && Pattern.compile("\\b(for|while|do)\\b").matcher(body).find()) {
+                fault("a constructor with a loop: " + method.getKey());
+            }
+        }
+        Matcher array = Pattern.compile("new \\w+\\[([^]]*)]").matcher(code);
+        while (array.find()) {
+            if (!array.group(1).matches("[A-Z_0-9]+( \\* [A-Z_0-9]+)?")) {
+                fault("an array whose size is not written out: " + array.group());
+            }
+        }
+    }
+
+    private static void checkCalls(String code) {
+        Map<String, String> bodies = bodies(code);
         for (Method m : DesignSpaces.class.getMethods()) {
             if (m.getDeclaringClass() == DesignSpaces.class && !bodies.containsKey(m.getName())) {
                 fault("not found in the text: " + m.getName());
@@ -181,7 +204,9 @@ public final class FaceTest {
         checkFace();
         checkClassesInside();
         checkText(text);
-        checkCalls(text);
+        String code = withoutCommentsAndTexts(text);
+        checkCalls(code);
+        checkMaking(code);
         System.out.println("FaceTest: " + wrong + " wrong");
         if (wrong != 0) {
             System.exit(1);

@@ -4,7 +4,9 @@ import java.lang.management.ManagementFactory;
 public final class LargestTest {
     private static final int NONE = DesignSpaces.NONE;
     /** The room holds some 7.3 million elements; at four bytes each this is a small part of it. */
-    private static final long MOST_BYTES = 1000000;
+    private static final long MOST_BYTES = 200000;
+    /** What measuring itself may use. */
+    private static final long SPARE_BYTES = 1000;
     private static int wrong = 0;
 
     private static void due(String call, long got, long want) {
@@ -95,35 +97,125 @@ public final class LargestTest {
         due("looked() along the last ones", x.looked(), 1 + 4 * 4 + 4 * 2);
     }
 
+    /** Any number may have all 100 terms, and what stood before a choice stays right behind it, up to 4096 designs. */
+    private static void fullBook() {
+        for (int number = 0; number < 4; number++) {
+            DesignSpaces x = new DesignSpaces(0);
+            x.choice(4);
+            x.choice(4);
+            for (int i = 0; i < 100; i++) {
+                due("term " + i, x.term(number, 0, i % 4, i % 2 == 0 ? NONE : 1, i / 4 % 4, i + 1), i + 1);
+            }
+            for (int i = 0; i < 40; i++) {
+                due("rule " + i, x.rule(0, i % 4, 1, (i + 1) % 4), i + 1);
+            }
+            for (int c = 2; c < 6; c++) {
+                checkFullBook(x, number);
+                x.choice(4);
+            }
+            checkFullBook(x, number);
+        }
+    }
+
+    private static void checkFullBook(DesignSpaces x, int number) {
+        int designs = x.count(1);
+        int part = designs / 16;
+        long least = Long.MAX_VALUE;
+        int first = NONE;
+        for (int design = 0; design < designs; design += designs > 256 ? 37 : 1) {
+            int sum = sumInFullBook(design / part);
+            boolean legal = (design / part / 4 + 1) % 4 != design / part % 4;
+            due("number(" + design + ", " + number + ")", x.number(design, number), sum);
+            due("number of another one", x.number(design, (number + 1) % 4), 0);
+            due("bound of all set", x.bound(number, design, x.count(0)), sum);
+            due("legal(" + design + ")", x.legal(design) ? 1 : 0, legal ? 1 : 0);
+        }
+        for (int pair = 0; pair < 16; pair++) {
+            if ((pair / 4 + 1) % 4 != pair % 4 && sumInFullBook(pair) < least) {
+                least = sumInFullBook(pair);
+                first = pair * part;
+            }
+        }
+        due("best(" + number + ") of " + designs, x.best(number), first);
+        due("undominated() of " + designs, x.undominated(), part);
+        due("at(0) of " + designs, x.at(0), first);
+        due("at the last of " + designs, x.at(part - 1), first + part - 1);
+    }
+
+    private static int sumInFullBook(int pair) {
+        int sum = 0;
+        for (int i = 0; i < 100; i++) {
+            if (i % 4 == pair / 4 && (i % 2 == 0 || i / 4 % 4 == pair % 4)) {
+                sum += i + 1;
+            }
+        }
+        return sum;
+    }
+
+    private static long bytesSoFar() {
+        return ((com.sun.management.ThreadMXBean) ManagementFactory.getThreadMXBean())
+            .getThreadAllocatedBytes(Thread.currentThread().getId());
+    }
+
+    private static void isAtMost(String what, long used, long most) {
+        if (used > most) {
+            wrong++;
+            System.out.println(what + " used " + used + " bytes, more than " + most);
+        }
+    }
+
+    /** The object alone takes room: a run's calls take none. The least of several runs, since the machine takes some, too. */
     private static void staysInItsRoom() {
-        com.sun.management.ThreadMXBean threads = (com.sun.management.ThreadMXBean) ManagementFactory.getThreadMXBean();
-        long id = Thread.currentThread().getId();
-        long before = threads.getThreadAllocatedBytes(id);
-        DesignSpaces x = new DesignSpaces(5);
+        long forObject = Long.MAX_VALUE;
+        long forCalls = Long.MAX_VALUE;
+        for (int run = 0; run < 10; run++) {
+            long before = bytesSoFar();
+            DesignSpaces x = new DesignSpaces(run);
+            long made = bytesSoFar();
+            manyCalls(x);
+            long after = bytesSoFar();
+            forObject = Math.min(forObject, made - before);
+            forCalls = Math.min(forCalls, after - made);
+        }
+        isAtMost("a new object", forObject, MOST_BYTES);
+        isAtMost("a run of 512 calls", forCalls, SPARE_BYTES);
+    }
+
+    private static void manyCalls(DesignSpaces x) {
         for (int c = 0; c < 6; c++) {
             x.choice(4);
             x.undominated();
         }
         opposeNumbers(x);
-        for (int i = 0; i < 76; i++) {
+        for (int i = 0; i < 40; i++) {
+            x.rule(0, 1 + i % 3, 1 + i % 5, 1 + i % 3);
+        }
+        for (int i = 0; i < 40; i++) {
             x.limit(i % 4, i % 8 < 4, i);
             x.undominated();
+            x.at(0);
             x.best(i % 4);
             x.walk(0, 1000);
             x.matters(i % 6, i % 4);
             x.bound(i % 4, i, i % 7);
+            x.near(i, i % 18);
+            x.beats(0, 0);
+            x.sweep(10);
         }
-        long used = threads.getThreadAllocatedBytes(id) - before;
-        if (used > MOST_BYTES) {
-            wrong++;
-            System.out.println("a run of 512 calls used " + used + " bytes");
-        }
+        x.slack(3);
+        x.lowest();
+        x.looked();
+        x.value(4095, 5);
+        x.number(4095, 3);
+        x.legal(4095);
+        x.count(4);
     }
 
     public static void main(String[] args) {
         allUndominated();
         nothingLegal();
         mostRows();
+        fullBook();
         staysInItsRoom();
         System.out.println("LargestTest: " + wrong + " wrong");
         if (wrong != 0) {
