@@ -295,7 +295,8 @@ public final class DesignSpaces {
                 }
                 left -= others;
             }
-            return NONE;
+            // no caller asks behind the last one; what is answered is a design's number all the same
+            return design;
         }
     }
 
