@@ -2,6 +2,7 @@ import java.lang.annotation.ElementType;
 import java.lang.annotation.Retention;
 import java.lang.annotation.RetentionPolicy;
 import java.lang.annotation.Target;
+import java.lang.reflect.InvocationTargetException;
 import java.lang.reflect.Method;
 import java.nio.file.Files;
 import java.nio.file.Path;
@@ -182,7 +183,11 @@ abstract class Sentences {
             place = test.getName() + ", promise " + says.promise() + ", \"" + says.text() + "\"";
             int before = checks;
             test.setAccessible(true);
-            test.invoke(null);
+            try {
+                test.invoke(null);
+            } catch (InvocationTargetException e) {
+                faults.add(place + ": the test ended by " + e.getCause());
+            }
             if (checks == before) {
                 faults.add(place + ": the test checks nothing");
             }
