@@ -4,39 +4,23 @@ import java.lang.reflect.Method;
 import java.lang.reflect.Modifier;
 import java.nio.file.Files;
 import java.nio.file.Path;
-import java.util.Arrays;
+import java.util.ArrayList;
+import java.util.List;
 import java.util.Map;
 import java.util.Set;
 import java.util.TreeMap;
 import java.util.TreeSet;
 import java.util.regex.Matcher;
 import java.util.regex.Pattern;
+import java.util.stream.Stream;
 
 /** The face of the document and no more, and what of LANGUAGE.md can be seen in the text. */
 public final class FaceTest {
-    private static final String[] FACE = {
-        "field public static final int NONE",
-        "constructor public (int)",
-        "public int choice(int) throws IllegalArgumentException UnsupportedOperationException",
-        "public int term(int int int int int int) throws IndexOutOfBoundsException IllegalArgumentException UnsupportedOperationException",
-        "public int rule(int int int int) throws IndexOutOfBoundsException IllegalArgumentException UnsupportedOperationException",
-        "public boolean limit(int boolean int) throws IndexOutOfBoundsException",
-        "public int number(int int) throws IndexOutOfBoundsException",
-        "public int value(int int) throws IndexOutOfBoundsException",
-        "public boolean legal(int) throws IndexOutOfBoundsException",
-        "public boolean beats(int int) throws IndexOutOfBoundsException IllegalArgumentException",
-        "public int undominated()",
-        "public int at(int) throws IndexOutOfBoundsException",
-        "public int best(int) throws IndexOutOfBoundsException",
-        "public int looked()",
-        "public int bound(int int int) throws IndexOutOfBoundsException",
-        "public int near(int int) throws IndexOutOfBoundsException",
-        "public int slack(int) throws IllegalArgumentException",
-        "public int walk(int int) throws IndexOutOfBoundsException IllegalArgumentException IllegalStateException",
-        "public int lowest()",
-        "public long matters(int int) throws IndexOutOfBoundsException",
-        "public int sweep(int) throws IllegalArgumentException IllegalStateException",
-        "public int count(int)"};
+    private static final Pattern FACE = Pattern.compile(
+        "(?s)## The public face\\s+```java\\s+public final class DesignSpaces \\{(.*?)}\\s+```");
+    private static final Pattern CONSTANT = Pattern.compile("(public static final int) (\\w+) = (-?\\d+);");
+    private static final Pattern MAKER = Pattern.compile("public DesignSpaces\\(([^)]*)\\);");
+    private static final Pattern METHOD = Pattern.compile("(public \\w+ \\w+)\\(([^)]*)\\)(?: throws ([\\w, ]+))?;");
     private static final String[] RULED_OUT = {"import ", "package ", "catch", "try ", "finally", "->", "::", "synchronized",
         "assert", "Exact(", "System.out", "Random", "static {", "hashCode", "equals(", "toString", "Arrays.sort"};
 
@@ -55,11 +39,12 @@ public final class FaceTest {
         return out.toString();
     }
 
-    private static Set<String> visibleMembers() {
+    private static Set<String> visibleMembers() throws Exception {
         Set<String> seen = new TreeSet<>();
         for (Field f : DesignSpaces.class.getDeclaredFields()) {
             if (!Modifier.isPrivate(f.getModifiers())) {
-                seen.add("field " + Modifier.toString(f.getModifiers()) + " " + f.getType() + " " + f.getName());
+                seen.add("field " + Modifier.toString(f.getModifiers()) + " " + f.getType() + " " + f.getName()
+                    + (Modifier.isStatic(f.getModifiers()) ? " = " + f.get(null) : ""));
             }
         }
         for (Constructor<?> c : DesignSpaces.class.getDeclaredConstructors()) {
@@ -75,8 +60,47 @@ public final class FaceTest {
         return seen;
     }
 
-    private static void checkFace() {
-        Set<String> due = new TreeSet<>(Arrays.asList(FACE));
+    /** The members that the document's section has, in the words of visibleMembers. */
+    private static Set<String> membersOfDocument() throws Exception {
+        String document = Files.readString(Path.of("../shared/DOC.md"));
+        Matcher block = FACE.matcher(document);
+        Set<String> due = new TreeSet<>();
+        if (!block.find()) {
+            fault("the document's face is not found");
+            return due;
+        }
+        for (String line : block.group(1).strip().split("\\s*\\n\\s*")) {
+            due.add(memberOf(line));
+        }
+        return due;
+    }
+
+    private static String memberOf(String line) {
+        Matcher constant = CONSTANT.matcher(line);
+        if (constant.matches()) {
+            return "field " + constant.group(1) + " " + constant.group(2) + " = " + constant.group(3);
+        }
+        Matcher maker = MAKER.matcher(line);
+        if (maker.matches()) {
+            return "constructor public (" + typesOf(maker.group(1)) + ")";
+        }
+        Matcher method = METHOD.matcher(line);
+        if (!method.matches()) {
+            fault("a line of the document's face that is not understood: " + line);
+            return line;
+        }
+        String thrown = method.group(3);
+        return method.group(1) + "(" + typesOf(method.group(2)) + ")"
+            + (thrown == null ? "" : " throws " + thrown.replace(",", ""));
+    }
+
+    /** Of parameters their types alone, with a space between. */
+    private static String typesOf(String parameters) {
+        return parameters.replaceAll("(\\w+) \\w+,?", "$1");
+    }
+
+    private static void checkFace() throws Exception {
+        Set<String> due = membersOfDocument();
         Set<String> seen = visibleMembers();
         for (String member : due) {
             if (!seen.contains(member)) {
@@ -199,6 +223,28 @@ public final class FaceTest {
         }
     }
 
+    /** Rule 11: few parameters and fields, and methods that stay short. */
+    private static void checkSizes(String code) {
+        List<Class<?>> classes = new ArrayList<>(List.of(DesignSpaces.class.getDeclaredClasses()));
+        classes.add(DesignSpaces.class);
+        for (Class<?> c : classes) {
+            long fields = Stream.of(c.getDeclaredFields()).filter(f -> !Modifier.isStatic(f.getModifiers())).count();
+            if (fields > 20) {
+                fault("too many fields: " + c.getName());
+            }
+            for (Method m : c.getDeclaredMethods()) {
+                if (m.getParameterCount() > 7) {
+                    fault("more than seven parameters: " + m.getName());
+                }
+            }
+        }
+        for (Map.Entry<String, String> method : bodies(code).entrySet()) {
+            if (method.getValue().lines().count() > 60) {
+                fault("a long method: " + method.getKey());
+            }
+        }
+    }
+
     public static void main(String[] args) throws Exception {
         String text = Files.readString(Path.of("src/main/java/DesignSpaces.java"));
         checkFace();
@@ -207,6 +253,7 @@ public final class FaceTest {
         String code = withoutCommentsAndTexts(text);
         checkCalls(code);
         checkMaking(code);
+        checkSizes(code);
         System.out.println("FaceTest: " + wrong + " wrong");
         if (wrong != 0) {
             System.exit(1);

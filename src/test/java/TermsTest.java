@@ -9,7 +9,7 @@ public final class TermsTest extends Sentences {
 
     @Says(text = "Spaces of designs: choices with rules that bar some together, numbers as sums of terms, limits")
     static void wholeSpace() {
-        DesignSpaces x = exampleOfReadme();
+        DesignSpaces x = enginesAndWheels();
         is(legalOnes(x), "110111");
         is(numbers(x, 0), "0 0 0 40 40 40");
         is(numbers(x, 1), "0 0 0 0 0 -9");
@@ -19,7 +19,7 @@ public final class TermsTest extends Sentences {
 
     @Says(text = "sweeps that go on where they were")
     static void whatCanBeAskedOfTheWholeSpace() {
-        DesignSpaces x = exampleOfReadme();
+        DesignSpaces x = enginesAndWheels();
         is(front(x), "3: 0 1 5");
         is(x.best(1), 5);
         is(x.near(0, 1), 1);
@@ -29,7 +29,22 @@ public final class TermsTest extends Sentences {
         is(x.sweep(2), 1);
     }
 
-    private static DesignSpaces exampleOfReadme() {
+    @Says(text = "Spaces of designs: choices with rules that bar some together, numbers as sums of terms, limits")
+    static void eachObjectIsASpaceOfItsOwn() {
+        DesignSpaces x = used();
+        DesignSpaces other = space(6, 2);
+        weigh(other, 1, 5, 4, 3, 2, 1, 0);
+        other.rule(0, 5, 1, 0);
+        other.limit(1, true, 4);
+        other.slack(9);
+        other.walk(2, 50);
+        other.best(1);
+        other.undominated();
+        other.sweep(7);
+        is(portrait(x), portrait(used()));
+    }
+
+    private static DesignSpaces enginesAndWheels() {
         DesignSpaces x = new DesignSpaces(7);
         x.choice(2);
         x.choice(3);
